@@ -27,7 +27,6 @@ public final class LabelLearner {
     private static final int ROWS = 37;
 
     private final Text text;
-    private final Reader reader;
     private final Decoder decoder;
     private final Weights weights;
     private final Weights totals;
@@ -45,7 +44,6 @@ public final class LabelLearner {
 
     public LabelLearner() {
         text = new Text();
-        reader = new Reader(text);
         decoder = new Decoder();
         weights = new Weights();
         totals = new Weights();
@@ -64,7 +62,7 @@ public final class LabelLearner {
     }
 
     public int load() throws IllegalArgumentException {
-        if (!reader.readCorpus(corpusDraft)) {
+        if (!text.readCorpus(corpusDraft)) {
             throw new IllegalArgumentException("the text is no corpus");
         }
         Corpus old = corpus;
@@ -80,7 +78,7 @@ public final class LabelLearner {
     }
 
     public int speak() throws IllegalArgumentException {
-        if (!reader.readSpeech(speechDraft)) {
+        if (!text.readSpeech(speechDraft)) {
             throw new IllegalArgumentException("the text is no speech");
         }
         Sentence old = speech;
@@ -236,10 +234,16 @@ public final class LabelLearner {
         return count;
     }
 
-    /** The characters that were typed and not yet used. */
+    /**
+     * The characters that were typed and not yet used. It is read from its start: where the reading can't go on it stands
+     * still, and whoever asked sees what stands there.
+     */
     private static final class Text {
+        private static final int EMPTY_HASH = 7;
+
         private final char[] characters = new char[MOST_CHARACTERS];
         private int length;
+        private int at;
 
         private boolean append(long packed, int n) {
             if (n < 1 || n > MOST_TYPED || n > MOST_CHARACTERS - length) {
@@ -269,49 +273,6 @@ public final class LabelLearner {
         private static int byteOf(long packed, int i) {
             return (int) (packed >>> 8 * i) & 255;
         }
-    }
-
-    /** The words of a sentence by what is asked of them later: their features, and their labels if they have some. */
-    private static final class Sentence {
-        private final int[] buckets = new int[MOST_WORDS * FEATURES];
-        private int labelling;
-        private int size;
-
-        private void clear() {
-            size = 0;
-            labelling = 0;
-        }
-
-        private int bucketOf(int word, int k) {
-            return buckets[word * FEATURES + k];
-        }
-
-        private void setBucket(int word, int k, int bucket) {
-            buckets[word * FEATURES + k] = bucket;
-        }
-    }
-
-    private static final class Corpus {
-        private final Sentence[] members = new Sentence[MOST_SENTENCES];
-        private int size;
-
-        private Corpus() {
-            for (int i = 0; i < MOST_SENTENCES; i++) {
-                members[i] = new Sentence();
-            }
-        }
-    }
-
-    /** Reads the text from its start; where it can't go on it stands still, and whoever asked sees what stands there. */
-    private static final class Reader {
-        private static final int EMPTY_HASH = 7;
-
-        private final Text text;
-        private int at;
-
-        private Reader(Text text) {
-            this.text = text;
-        }
 
         private boolean readCorpus(Corpus into) {
             at = 0;
@@ -321,7 +282,7 @@ public final class LabelLearner {
                     return false;
                 }
                 into.size++;
-                if (at == text.length) {
+                if (at == length) {
                     return true;
                 }
                 if (!take(';')) {
@@ -333,7 +294,7 @@ public final class LabelLearner {
 
         private boolean readSpeech(Sentence into) {
             at = 0;
-            return readSentence(into, false) && at == text.length;
+            return readSentence(into, false) && at == length;
         }
 
         /** Stops in front of a seventh word, and in front of a word that no space parts from the one before. */
@@ -389,7 +350,7 @@ public final class LabelLearner {
 
         private boolean skipSpaces() {
             int start = at;
-            while (at < text.length && current() == ' ') {
+            while (at < length && current() == ' ') {
                 at++;
             }
             return at > start;
@@ -402,13 +363,13 @@ public final class LabelLearner {
         }
 
         private int current() {
-            return at < text.length ? text.characters[at] : NONE;
+            return at < length ? characters[at] : NONE;
         }
 
         private int hash(int start, int from, int to) {
             int h = start;
             for (int i = from; i < to; i++) {
-                h = mix(h, text.characters[i]);
+                h = mix(h, characters[i]);
             }
             return h;
         }
@@ -423,6 +384,37 @@ public final class LabelLearner {
 
         private static boolean isLetter(int code) {
             return code >= 'a' && code <= 'z';
+        }
+    }
+
+    /** The words of a sentence by what is asked of them later: their features, and their labels if they have some. */
+    private static final class Sentence {
+        private final int[] buckets = new int[MOST_WORDS * FEATURES];
+        private int labelling;
+        private int size;
+
+        private void clear() {
+            size = 0;
+            labelling = 0;
+        }
+
+        private int bucketOf(int word, int k) {
+            return buckets[word * FEATURES + k];
+        }
+
+        private void setBucket(int word, int k, int bucket) {
+            buckets[word * FEATURES + k] = bucket;
+        }
+    }
+
+    private static final class Corpus {
+        private final Sentence[] members = new Sentence[MOST_SENTENCES];
+        private int size;
+
+        private Corpus() {
+            for (int i = 0; i < MOST_SENTENCES; i++) {
+                members[i] = new Sentence();
+            }
         }
     }
 

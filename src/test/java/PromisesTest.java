@@ -383,6 +383,9 @@ public final class PromisesTest {
         x.speak();
         decodes("speech", x, -1, false, false, 5, 1, 1);
         decodes("speech, second", x, -1, false, true, 4, 1, 2);
+        LabelLearner y = Check.loaded("a/B b/C");
+        y.learn(1);
+        CHECK.same("C behind B, not B behind C", y.decode(0, false, false), y.score(0, 1 | 2 << 2, false));
     }
 
     private static void decodeBreaksTies() {
