@@ -4,7 +4,21 @@ final class Check {
         void make();
     }
 
+    interface Deed {
+        void doTo(LabelLearner x);
+    }
+
+    interface Question {
+        boolean ask(LabelLearner x);
+    }
+
     private int wrong;
+    private String sentence = "";
+
+    /** The sentence of the document that the next checks are about; it is printed with what is wrong. */
+    void about(String sentence) {
+        this.sentence = "[" + sentence + "] ";
+    }
 
     void same(String what, long got, long due) {
         if (got != due) {
@@ -36,9 +50,43 @@ final class Check {
         wrong(what + " threw nothing, due is " + due.getSimpleName());
     }
 
+    /** The deed is refused by that exception, and nothing can be seen of it behind. */
+    void throwsAndLeaves(String what, Class<? extends RuntimeException> due, Seen.Maker maker, Deed deed) {
+        refused(what, due, () -> deed.doTo(maker.make()));
+        leaves(what, maker, deed);
+    }
+
+    /** The question is answered by false, and nothing can be seen of it behind. */
+    void falseAndLeaves(String what, Seen.Maker maker, Question question) {
+        same(what, question.ask(maker.make()), false);
+        leaves(what, maker, question::ask);
+    }
+
+    /** Nothing can be seen of the deed behind it, whether it throws or not. */
+    void leaves(String what, Seen.Maker maker, Deed deed) {
+        seenAlike("behind " + what, () -> {
+            LabelLearner x = maker.make();
+            try {
+                deed.doTo(x);
+            } catch (RuntimeException refused) {
+                return x;
+            }
+            return x;
+        }, maker);
+    }
+
+    /** Two objects can't be told from one another. */
+    void seenAlike(String what, Seen.Maker got, Seen.Maker due) {
+        String[] gotParts = Seen.all(got).split("\n");
+        String[] dueParts = Seen.all(due).split("\n");
+        for (int i = 0; i < dueParts.length; i++) {
+            same(what + ": the look at", gotParts[i], dueParts[i]);
+        }
+    }
+
     void wrong(String message) {
         wrong++;
-        System.out.println(message);
+        System.out.println(sentence + message);
     }
 
     int wrongs() {
@@ -50,37 +98,5 @@ final class Check {
             System.out.println(wrong + " answers are not as due");
             System.exit(1);
         }
-    }
-
-    /** Types a text in pieces of up to eight characters. */
-    static boolean typeAll(LabelLearner x, String text) {
-        boolean all = true;
-        for (int from = 0; from < text.length(); from += 8) {
-            String piece = text.substring(from, Math.min(text.length(), from + 8));
-            all &= x.type(packed(piece), piece.length());
-        }
-        return all;
-    }
-
-    static long packed(String piece) {
-        long w = 0;
-        for (int i = piece.length() - 1; i >= 0; i--) {
-            w = w << 8 | piece.charAt(i);
-        }
-        return w;
-    }
-
-    static LabelLearner loaded(String corpus) {
-        LabelLearner x = new LabelLearner();
-        typeAll(x, corpus);
-        x.load();
-        return x;
-    }
-
-    static LabelLearner spoken(String speech) {
-        LabelLearner x = new LabelLearner();
-        typeAll(x, speech);
-        x.speak();
-        return x;
     }
 }

@@ -53,7 +53,7 @@ public final class OracleTest {
         int calls = 2;
         for (int from = 0; from < text.length(); calls++) {
             int n = Math.min(text.length() - from, 1 + random.nextInt(8));
-            type(Check.packed(text.substring(from, from + n)), n);
+            type(Made.packed(text.substring(from, from + n)), n);
             from += n;
         }
         if (corpus) {

@@ -69,13 +69,13 @@ public final class PromisesTest {
         CHECK.same("speak", x.speak(), 1);
         bucketIs("lowest byte first", x, -1, 0, 0, bucketOf("abcd"));
         for (int i = 0; i < 30; i++) {
-            CHECK.same("type 8 more", x.type(Check.packed("~ ~ ~ ~ "), 8), true);
+            CHECK.same("type 8 more", x.type(Made.packed("~ ~ ~ ~ "), 8), true);
         }
         CHECK.same("type a 241st", x.type('a', 1), false);
         CHECK.same("cut to 240", x.cut(240), true);
         CHECK.same("cut to 233", x.cut(233), true);
-        CHECK.same("type to 241", x.type(Check.packed("aaaaaaaa"), 8), false);
-        CHECK.same("type to 240", x.type(Check.packed("aaaaaaa"), 7), true);
+        CHECK.same("type to 241", x.type(Made.packed("aaaaaaaa"), 8), false);
+        CHECK.same("type to 240", x.type(Made.packed("aaaaaaa"), 7), true);
         CHECK.same("cut to 240 again", x.cut(240), true);
     }
 
@@ -83,12 +83,12 @@ public final class PromisesTest {
         LabelLearner x = new LabelLearner();
         int[] lengths = {0, -1, 9, 16, 241, Integer.MIN_VALUE, Integer.MAX_VALUE};
         for (int n : lengths) {
-            CHECK.same("type n = " + n, x.type(Check.packed("aaaaaaaa"), n), false);
+            CHECK.same("type n = " + n, x.type(Made.packed("aaaaaaaa"), n), false);
         }
         int[] codes = {0, 9, 10, 31, 127, 128, 160, 255};
         for (int code : codes) {
             CHECK.same("type code " + code, x.type(code, 1), false);
-            CHECK.same("type code " + code + " last of 8", x.type((long) code << 56 | Check.packed("aaaaaaa"), 8), false);
+            CHECK.same("type code " + code + " last of 8", x.type((long) code << 56 | Made.packed("aaaaaaa"), 8), false);
             CHECK.same("nothing typed", x.cut(1), false);
         }
         CHECK.same("type 32", x.type(32, 1), true);
@@ -100,7 +100,7 @@ public final class PromisesTest {
     private static void cut() {
         LabelLearner x = new LabelLearner();
         CHECK.same("cut 0 of 0", x.cut(0), true);
-        Check.typeAll(x, "abcdef");
+        Made.typeAll(x, "abcdef");
         CHECK.same("cut -1", x.cut(-1), false);
         CHECK.same("cut least", x.cut(Integer.MIN_VALUE), false);
         CHECK.same("cut 7 of 6", x.cut(7), false);
@@ -108,7 +108,7 @@ public final class PromisesTest {
         CHECK.same("cut 6 of 6", x.cut(6), true);
         CHECK.same("cut 2 of 6", x.cut(2), true);
         CHECK.same("cut 3 of 2", x.cut(3), false);
-        Check.typeAll(x, "x");
+        Made.typeAll(x, "x");
         CHECK.same("speak", x.speak(), 1);
         bucketIs("the first ones are kept", x, -1, 0, 0, bucketOf("abx"));
     }
@@ -128,7 +128,7 @@ public final class PromisesTest {
 
     private static void loads(String text, int count) {
         LabelLearner x = new LabelLearner();
-        Check.typeAll(x, text);
+        Made.typeAll(x, text);
         CHECK.same("load of [" + text + "]", x.load(), count);
         CHECK.same("sentences of [" + text + "]", x.sentences(), count);
         CHECK.same("text left behind [" + text + "]", x.cut(1), false);
@@ -140,10 +140,10 @@ public final class PromisesTest {
             "a/A b/A c/A d/A e/A f/A g/A", "a/A;a/A;a/A;a/A;a/A;a/A;a/A;a/A;a/A", "a/A;a/A;a/A;a/A;a/A;a/A;a/A;a/A;",
             "a/A;a/A;a/A;a/A;a/A;a/A;a/A;a/A x", "a/A b/A c/A d/A e/A f/A ;g/A h", "`/A", "{/A", " ".repeat(240)};
         for (String text : texts) {
-            LabelLearner x = Check.loaded("a/B;ab/C b/A");
+            LabelLearner x = Made.loaded("a/B;ab/C b/A");
             x.learn(1);
             x.decode(1, false, false);
-            Check.typeAll(x, text);
+            Made.typeAll(x, text);
             CHECK.refused("load of [" + text + "]", ARGUMENT, x::load);
             CHECK.same("text stays [" + text + "]", x.cut(text.length()) && !x.cut(text.length() + 1), true);
             CHECK.same("corpus stays [" + text + "]", x.sentences() * 10 + x.words(1), 22);
@@ -156,12 +156,12 @@ public final class PromisesTest {
     }
 
     private static void loadStartsAnew() {
-        LabelLearner x = Check.loaded("a/B b/C;b/D");
-        Check.typeAll(x, "dog");
+        LabelLearner x = Made.loaded("a/B b/C;b/D");
+        Made.typeAll(x, "dog");
         x.speak();
         x.learn(3);
         x.decode(0, true, true);
-        Check.typeAll(x, "b/D");
+        Made.typeAll(x, "b/D");
         CHECK.same("second load", x.load(), 1);
         CHECK.same("second load: sentences", x.sentences(), 1);
         CHECK.same("second load: given", x.given(0, 0), 3);
@@ -172,7 +172,7 @@ public final class PromisesTest {
         CHECK.same("second load: passes", x.passes(), 0);
         CHECK.same("the speech outlives a load", x.words(-1), 1);
         allWeightsAre0("second load", x);
-        Check.typeAll(x, "c/A");
+        Made.typeAll(x, "c/A");
         x.load();
         CHECK.same("no label is left from two loads ago", x.given(0, 0), 0);
     }
@@ -187,7 +187,7 @@ public final class PromisesTest {
 
     private static void speaks(String text, int count) {
         LabelLearner x = new LabelLearner();
-        Check.typeAll(x, text);
+        Made.typeAll(x, text);
         CHECK.same("speak of [" + text + "]", x.speak(), count);
         CHECK.same("words of [" + text + "]", x.words(-1), count);
         CHECK.same("no corpus from [" + text + "]", x.sentences(), 0);
@@ -198,9 +198,9 @@ public final class PromisesTest {
         String[] texts = {"", " ", "a/A", "a;b", "a;", ";", "A", "abcdefg", "a bcdefgh", "a b c d e f g", "a.", "a-b", "a 1", "a/",
             "`", "{"};
         for (String text : texts) {
-            LabelLearner x = Check.spoken("ab b");
+            LabelLearner x = Made.spoken("ab b");
             x.decode(-1, false, true);
-            Check.typeAll(x, text);
+            Made.typeAll(x, text);
             CHECK.refused("speak of [" + text + "]", ARGUMENT, x::speak);
             CHECK.same("text stays [" + text + "]", x.cut(text.length()) && !x.cut(text.length() + 1), true);
             CHECK.same("speech stays [" + text + "]", x.words(-1), 2);
@@ -210,12 +210,12 @@ public final class PromisesTest {
     }
 
     private static void speakStartsAnew() {
-        LabelLearner x = Check.loaded("a/B");
+        LabelLearner x = Made.loaded("a/B");
         x.learn(1);
-        Check.typeAll(x, "a b c");
+        Made.typeAll(x, "a b c");
         x.speak();
         x.decode(-1, false, false);
-        Check.typeAll(x, "b");
+        Made.typeAll(x, "b");
         CHECK.same("second speak", x.speak(), 1);
         CHECK.same("second speak: words", x.words(-1), 1);
         bucketIs("second speak", x, -1, 0, 0, bucketOf("b"));
@@ -229,32 +229,32 @@ public final class PromisesTest {
     }
 
     private static void sentences() {
-        CHECK.same("sentences of three", Check.loaded("a/A;b/B;c/C").sentences(), 3);
-        CHECK.same("sentences of a speech", Check.spoken("a b").sentences(), 0);
+        CHECK.same("sentences of three", Made.loaded("a/A;b/B;c/C").sentences(), 3);
+        CHECK.same("sentences of a speech", Made.spoken("a b").sentences(), 0);
     }
 
     private static void words() {
-        LabelLearner x = Check.loaded("a/A b/B c/C;d/D");
+        LabelLearner x = Made.loaded("a/A b/B c/C;d/D");
         CHECK.same("words(0)", x.words(0), 3);
         CHECK.same("words(1)", x.words(1), 1);
         int[] none = {-1, -2, 2, 8, Integer.MIN_VALUE, Integer.MAX_VALUE};
         for (int sentence : none) {
             CHECK.refused("words(" + sentence + ")", INDEX, () -> x.words(sentence));
         }
-        Check.typeAll(x, "a b");
+        Made.typeAll(x, "a b");
         x.speak();
         CHECK.same("words(-1)", x.words(-1), 2);
         CHECK.refused("words(-2) with a speech", INDEX, () -> x.words(-2));
     }
 
     private static void given() {
-        LabelLearner x = Check.loaded("a/D b/C c/B d/A e/D f/C;g/B");
+        LabelLearner x = Made.loaded("a/D b/C c/B d/A e/D f/C;g/B");
         int[] due = {3, 2, 1, 0, 3, 2};
         for (int word = 0; word < due.length; word++) {
             CHECK.same("given(0, " + word + ")", x.given(0, word), due[word]);
         }
         CHECK.same("given(1, 0)", x.given(1, 0), 1);
-        Check.typeAll(x, "a b");
+        Made.typeAll(x, "a b");
         x.speak();
         int[][] none = {{0, 6}, {0, -1}, {1, 1}, {2, 0}, {-1, 0}, {-2, 0}, {0, Integer.MAX_VALUE}, {Integer.MIN_VALUE, 0}};
         for (int[] at : none) {
@@ -263,14 +263,14 @@ public final class PromisesTest {
     }
 
     private static void feature() {
-        LabelLearner x = Check.loaded("a/A zzzzzz/B ab/C;dog/D");
+        LabelLearner x = Made.loaded("a/A zzzzzz/B ab/C;dog/D");
         int[][] due = {{0, 0, 0, 26}, {0, 0, 1, 27}, {0, 0, 2, 21}, {0, 1, 0, 17}, {0, 1, 1, 1}, {0, 1, 2, 12}, {0, 2, 0, 8},
             {0, 2, 1, 0}, {0, 2, 2, 14}, {1, 0, 0, 28}, {1, 0, 1, 25}, {1, 0, 2, 21}};
         for (int[] at : due) {
             bucketIs("corpus", x, at[0], at[1], at[2], at[3]);
         }
         CHECK.refused("no speech", INDEX, () -> x.feature(-1, 0, 0));
-        Check.typeAll(x, "ab  a");
+        Made.typeAll(x, "ab  a");
         x.speak();
         bucketIs("speech", x, -1, 1, 2, 30);
         int[][] none = {{0, 0, 3}, {0, 0, -1}, {0, 3, 0}, {0, -1, 0}, {1, 1, 0}, {2, 0, 0}, {-2, 0, 0}, {-1, 2, 0}, {-1, 0, 3},
@@ -281,7 +281,7 @@ public final class PromisesTest {
     }
 
     private static void learn() {
-        LabelLearner x = Check.loaded("a/B");
+        LabelLearner x = Made.loaded("a/B");
         CHECK.same("learn(1)", x.learn(1), 1);
         int[] rows = {26, 27, 21, 32};
         for (int row : rows) {
@@ -294,11 +294,11 @@ public final class PromisesTest {
             weightsAre("after no mistake", x, row, true, -2, 2, 0, 0);
         }
         weightsAre("no pair in one word", x, 33, false, 0, 0, 0, 0);
-        CHECK.same("a second sentence learns after the first", Check.loaded("a/B;a/B").learn(1), 1);
+        CHECK.same("a second sentence learns after the first", Made.loaded("a/B;a/B").learn(1), 1);
     }
 
     private static void learnRefuses() {
-        LabelLearner x = Check.spoken("a b");
+        LabelLearner x = Made.spoken("a b");
         int[] wrong = {0, 7, -1, Integer.MIN_VALUE, Integer.MAX_VALUE};
         for (int passes : wrong) {
             CHECK.refused("learn(" + passes + ") without a corpus", ARGUMENT, () -> x.learn(passes));
@@ -306,7 +306,7 @@ public final class PromisesTest {
         CHECK.refused("learn(1) without a corpus", STATE, () -> x.learn(1));
         CHECK.refused("learn(6) without a corpus", STATE, () -> x.learn(6));
         CHECK.same("no pass without a corpus", x.passes(), 0);
-        LabelLearner y = Check.loaded("a/B");
+        LabelLearner y = Made.loaded("a/B");
         for (int passes : wrong) {
             CHECK.refused("learn(" + passes + ")", ARGUMENT, () -> y.learn(passes));
         }
@@ -315,19 +315,19 @@ public final class PromisesTest {
     }
 
     private static void learnStopsWithoutMistake() {
-        LabelLearner x = Check.loaded("a/B");
+        LabelLearner x = Made.loaded("a/B");
         CHECK.same("learn(6)", x.learn(6), 0);
         CHECK.same("it stops behind the pass without mistake", x.passes(), 2);
         CHECK.same("totals of two sentences learnt", x.weight(26, 1, true), 2);
         CHECK.same("learn(6) again", x.learn(6), 0);
         CHECK.same("one pass more", x.passes(), 3);
-        LabelLearner y = Check.loaded("a/A;a/B");
+        LabelLearner y = Made.loaded("a/A;a/B");
         CHECK.same("what can't be learnt", y.learn(6), 2);
         CHECK.same("all six passes", y.passes(), 6);
     }
 
     private static void mistakesAndPasses() {
-        LabelLearner x = Check.loaded("a/A;a/B");
+        LabelLearner x = Made.loaded("a/A;a/B");
         x.learn(1);
         CHECK.same("mistakes of one pass", x.mistakes(), 1);
         CHECK.same("passes, one", x.passes(), 1);
@@ -341,7 +341,7 @@ public final class PromisesTest {
     }
 
     private static void weightNumbers() {
-        LabelLearner x = Check.loaded("a/B");
+        LabelLearner x = Made.loaded("a/B");
         int[][] none = {{-1, 0}, {37, 0}, {0, -1}, {0, 4}, {36, 4}, {32, -1}, {37, -1}, {Integer.MIN_VALUE, 0},
             {Integer.MAX_VALUE, 3}, {9, Integer.MAX_VALUE}, {1 << 30, 0}};
         for (int[] at : none) {
@@ -352,7 +352,7 @@ public final class PromisesTest {
     }
 
     private static void weightOfPairs() {
-        LabelLearner x = Check.loaded("a/B b/D c/B");
+        LabelLearner x = Made.loaded("a/B b/D c/B");
         CHECK.same("one mistake", x.learn(1), 1);
         weightsAre("first", x, 32, false, -1, 1, 0, 0);
         weightsAre("behind A", x, 33, false, -2, 0, 0, 0);
@@ -362,7 +362,7 @@ public final class PromisesTest {
     }
 
     private static void weightOfOneBucketTwice() {
-        LabelLearner x = Check.loaded("af/C");
+        LabelLearner x = Made.loaded("af/C");
         CHECK.same("af has one bucket twice", x.feature(0, 0, 0), x.feature(0, 0, 1));
         x.learn(1);
         weightsAre("a bucket that a word has twice", x, x.feature(0, 0, 0), false, -2, 0, 2, 0);
@@ -370,7 +370,7 @@ public final class PromisesTest {
     }
 
     private static void decode() {
-        LabelLearner x = Check.loaded("a/B");
+        LabelLearner x = Made.loaded("a/B");
         CHECK.refused("no speech", INDEX, () -> x.decode(-1, false, false));
         CHECK.refused("decode(1)", INDEX, () -> x.decode(1, false, false));
         CHECK.refused("decode(-2)", INDEX, () -> x.decode(-2, true, true));
@@ -379,17 +379,17 @@ public final class PromisesTest {
         decodes("second", x, 0, false, true, 0, 2);
         decodes("best by totals", x, 0, true, false, 8, 1);
         decodes("second by totals", x, 0, true, true, 0, 2);
-        Check.typeAll(x, "a b");
+        Made.typeAll(x, "a b");
         x.speak();
         decodes("speech", x, -1, false, false, 5, 1, 1);
         decodes("speech, second", x, -1, false, true, 4, 1, 2);
-        LabelLearner y = Check.loaded("a/B b/C");
+        LabelLearner y = Made.loaded("a/B b/C");
         y.learn(1);
         CHECK.same("C behind B, not B behind C", y.decode(0, false, false), y.score(0, 1 | 2 << 2, false));
     }
 
     private static void decodeBreaksTies() {
-        LabelLearner x = Check.loaded("a/B b/C c/D d/A e/B f/C;a/A");
+        LabelLearner x = Made.loaded("a/B b/C c/D d/A e/B f/C;a/A");
         decodes("all 0, best", x, 0, false, false, 0, 0, 0, 0, 0, 0, 0);
         decodes("all 0, second", x, 0, false, true, 0, 0, 0, 0, 0, 0, 1);
         decodes("all 0, one word, best", x, 1, false, false, 0, 0);
@@ -397,26 +397,26 @@ public final class PromisesTest {
     }
 
     private static void decodeKeeps() {
-        LabelLearner x = Check.loaded("a/B;b/C a/B");
+        LabelLearner x = Made.loaded("a/B;b/C a/B");
         x.learn(6);
         x.decode(0, false, false);
         x.errors(false);
         x.score(1, 5, false);
-        Check.typeAll(x, "x");
+        Made.typeAll(x, "x");
         x.learn(6);
         CHECK.refused("a wrong decode", INDEX, () -> x.decode(2, false, false));
         CHECK.same("the latest one is kept", x.label(0), 1);
         CHECK.refused("and has one word", INDEX, () -> x.label(1));
         x.decode(1, false, false);
         CHECK.same("then the later one", x.label(0) * 10 + x.label(1), 21);
-        LabelLearner y = Check.loaded("a/B");
+        LabelLearner y = Made.loaded("a/B");
         y.decode(0, false, false);
         y.learn(6);
         CHECK.same("to learn leaves the labels that were found", y.label(0), 0);
     }
 
     private static void label() {
-        LabelLearner x = Check.loaded("a/B c/D");
+        LabelLearner x = Made.loaded("a/B c/D");
         CHECK.refused("nothing decoded", INDEX, () -> x.label(0));
         x.learn(6);
         CHECK.refused("nothing decoded by decode", INDEX, () -> x.label(0));
@@ -430,23 +430,23 @@ public final class PromisesTest {
     }
 
     private static void score() {
-        LabelLearner x = Check.loaded("a/B;b/A c/A");
+        LabelLearner x = Made.loaded("a/B;b/A c/A");
         CHECK.refused("no speech", INDEX, () -> x.score(-1, 0, false));
         CHECK.refused("score(2)", INDEX, () -> x.score(2, 0, false));
         CHECK.refused("score(-2)", INDEX, () -> x.score(-2, 0, true));
-        LabelLearner y = Check.loaded("a/B");
+        LabelLearner y = Made.loaded("a/B");
         y.learn(6);
         CHECK.same("score of B", y.score(0, 1, false), 4);
         CHECK.same("score of A", y.score(0, 0, false), -4);
         CHECK.same("score of C", y.score(0, 2, false), 0);
         CHECK.same("score of B by totals", y.score(0, 1, true), 8);
         CHECK.same("what is above", y.score(0, 0xfffffff1, false), 4);
-        LabelLearner z = Check.loaded("a/B b/D c/B");
+        LabelLearner z = Made.loaded("a/B b/D c/B");
         z.learn(1);
         CHECK.same("score of a pair", z.score(0, 1 | 3 << 2 | 1 << 4, false), z.decode(0, false, false));
         CHECK.same("the sum of all weights of BDB", z.decode(0, false, false),
             3 + 3 + 3 + 1 + 2 + overlaps(z));
-        CHECK.same("all labels of six words", Check.spoken("a b c d e f").score(-1, -1, true), 0);
+        CHECK.same("all labels of six words", Made.spoken("a b c d e f").score(-1, -1, true), 0);
     }
 
     /** What the words with label B lend one another by buckets that they share, after BDB was learnt against AAA. */
@@ -466,12 +466,12 @@ public final class PromisesTest {
     }
 
     private static void errors() {
-        LabelLearner x = Check.loaded("a/B b/A c/D;d/A;e/C");
+        LabelLearner x = Made.loaded("a/B b/A c/D;d/A;e/C");
         CHECK.same("errors before", x.errors(false), 3);
         CHECK.same("errors before, by totals", x.errors(true), 3);
         x.learn(6);
         CHECK.same("errors behind a pass without mistake", x.learn(6) == 0 ? x.errors(false) : 0, 0);
-        LabelLearner y = Check.loaded("a/B;a/A");
+        LabelLearner y = Made.loaded("a/B;a/A");
         y.learn(1);
         CHECK.same("errors by weights that are 0 again", y.errors(false), 1);
         CHECK.same("errors by totals", y.errors(true), 1);
