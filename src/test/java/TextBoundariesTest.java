@@ -28,10 +28,12 @@ public final class TextBoundariesTest {
         loadEmptiesText();
         loadClearsWeights();
         loadForgetsDecoding();
+        loadChangesAllThatAndNoMore();
         loadRefusesWhatIsNone();
         speakAnswersWords();
         speakEmptiesText();
         speakForgetsDecoding();
+        speakChangesAllThatAndNoMore();
         speakRefusesWhatIsNone();
         CHECK.end();
     }
@@ -272,6 +274,26 @@ public final class TextBoundariesTest {
         }
     }
 
+    private static void loadChangesAllThatAndNoMore() {
+        CHECK.about("Promise 4: The text is the corpus from now on ...; the text is empty then, weights and totals are 0, no "
+            + "decoding is kept.");
+        String corpus = "ab/D a/A;c/B";
+        CHECK.seenAlike("load behind all else, and load behind the speech alone", () -> {
+            LabelLearner x = Made.busyWith(corpus);
+            x.load();
+            return x;
+        }, () -> {
+            LabelLearner x = Made.spoken("dog a");
+            Made.typeAll(x, corpus);
+            x.load();
+            return x;
+        });
+        LabelLearner x = Made.busyWith(corpus);
+        x.load();
+        x.decode(-1, false, true);
+        CHECK.same("the speech can be decoded still", x.label(0) * 10 + x.label(1), 1);
+    }
+
     private static void loadRefusesWhatIsNone() {
         CHECK.about("Promise 4: IllegalArgumentException when it is none.");
         String[] wrong = {"", " ", ";", "/", "a", "a b", "a/", "a/E", "a/A;", "a/A;;b/B", ";a/A", "a/Ab/B", "abcdefg/A",
@@ -323,6 +345,21 @@ public final class TextBoundariesTest {
             int at = word;
             CHECK.refused("label(" + word + ")", INDEX, () -> x.label(at));
         }
+    }
+
+    private static void speakChangesAllThatAndNoMore() {
+        CHECK.about("Promise 5: The text is the speech from now on ...; the text is empty then, no decoding is kept.");
+        CHECK.seenAlike("speak behind all else, and speak behind what was learnt alone", () -> {
+            LabelLearner x = Made.busyWith("c ab");
+            x.speak();
+            return x;
+        }, () -> {
+            LabelLearner x = Made.loaded("a/B ab/C;b/D c/A a/C;z/D");
+            x.learn(3);
+            Made.typeAll(x, "c ab");
+            x.speak();
+            return x;
+        });
     }
 
     private static void speakRefusesWhatIsNone() {
